@@ -1083,7 +1083,9 @@ public final class ConfessionMill {
             if (isSign(Tokens.OPEN)) {
                 readOpen();
             } else if (word == Tokens.WORD_NOT && notMayStand) {
-                readKnot(Laws.NOT);
+                if (countKnot()) {
+                    push(Laws.NOT);
+                }
             } else if (kind == Tokens.DIGITS) {
                 if (value > LARGEST_NUMBER) {
                     fail(TOO_MUCH);
@@ -1147,15 +1149,9 @@ public final class ConfessionMill {
             release(compares ? COMPARED + 1 : binds);
             if (compares && waits > 0 && BINDS[waiting[waits - 1]] == COMPARED) {
                 fail(CANNOT_STAND);
-                return;
-            }
-            wantsSide = true;
-            notMayStand = binds < COMPARED;
-            readKnot(knot);
-        }
-
-        private void readKnot(int knot) {
-            if (countKnot()) {
+            } else if (countKnot()) {
+                wantsSide = true;
+                notMayStand = binds < COMPARED;
                 push(knot);
             }
         }
@@ -1171,6 +1167,7 @@ public final class ConfessionMill {
             return true;
         }
 
+        /** Lets a knot wait, and goes on behind it. */
         private void push(int knot) {
             if (waits < waiting.length) {
                 waiting[waits] = knot;
