@@ -125,6 +125,8 @@ public final class ConfessedTest {
         valueIs("(9999 * 9999 * 9999) * (9999 * 9999 * 9999)", ERROR);
         valueIs("(0 - 9999 * 9999 * 9999) * (9999 * 9999 * 9999)", ERROR);
         valueIs("(9999 * 9999 * 9999) * 0", 0);
+        // 2 to the 64 in all, which wraps around to 0
+        valueIs("(4096 * 4096 * 256) * (4096 * 4096 * 256)", ERROR);
     }
 
     private static void law() {
@@ -298,6 +300,11 @@ public final class ConfessedTest {
         is("bake(-1)", mill.bake(-1) ? 1 : 0, 0);
         is("baked(3)", mill.baked(3), -1);
         is("baked(-1)", mill.baked(-1), -1);
+        mill = Due.mill("sin a 5;person p 1;cake c 5 7 2;");
+        mill.confess(0, 0);
+        mill.confess(0, 0);
+        mill.bake(0);
+        is("of several the oldest", mill.sack(0, 3) * 10 + mill.sack(1, 3), 3);
         mill = Due.mill("sin a 5;person p 1;cake c 5 5 2;");
         mill.days(2);
         mill.confess(0, 0);

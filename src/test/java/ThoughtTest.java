@@ -105,6 +105,16 @@ public final class ThoughtTest {
         is("truly", mill.crumb(0, 0), 1);
         is("or invented", mill.crumb(0, 1), 2);
         is("40 of 100", mill.crumb(0, 2) * 10 + mill.crumb(0, 3), 25);
+
+        mill = Due.mill("sin a 10;sin b 15;person p 60 did a 2;stone 3;law wear 4;"
+            + "law grind worth * (worn = 7) + pride * 5 + times * 2 - (worth > 10) * lie * 5;");
+        mill.confess(0, 1);
+        mill.confess(0, 0);
+        mill.confess(0, 0);
+        // behind the lie: worn 7, pride 2, times 1: 10 and 15 with 12 each, a lie 5 less
+        is("worn, pride and times as then", mill.sack(1, 2), 22);
+        is("as then, truly", mill.crumb(1, 0), 1);
+        is("as then, invented", mill.crumb(1, 1), 2);
     }
 
     private static void run() {
@@ -154,6 +164,9 @@ public final class ThoughtTest {
         is("want isn't asked by 3", mill.tried(3, 0, 1, 0), 5);
         is("nor by 4", mill.tried(4, 0, 1, 0), 5);
         is("it is by 0", mill.tried(0, 0, 1, 0), 0);
+        is("the least is 99", Due.mill("sin a 99;person p 1 did a 1;").tried(3, 0, 1, 0), 5);
+        mill = Due.mill("sin a 3;sin b 3;person p 1 did b 1;person q 1 did a 1;law grind honest + worth * 0 + (worth = 3);");
+        is("of several the first by people", mill.tried(3, 0, 1, 0) + mill.tried(4, 0, 1, 0), 10);
     }
 
     private static void mills() {
@@ -204,6 +217,7 @@ public final class ThoughtTest {
     // From seed 1 on the numbers are 16838, 5758, 10113, 17515, 31051, 5627, 23010.
     private static void lies() {
         ConfessionMill mill = Due.mill("sin a 1;sin b 1;person p 39 did a 1;person q 0 did a 1 did b 1;person r 100;seed 1;");
+        is("another seed: 5758 first", mill.lies(1103527590, 0, 1), 1);
         is("38 is honest", mill.lies(1, 0, 1), 0);
         is("58 is not", mill.lies(1, 0, 2), 1);
         is("15 is honest", mill.lies(1, 0, 3), 1);

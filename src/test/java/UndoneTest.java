@@ -57,6 +57,11 @@ public final class UndoneTest {
         mill.ask(1);
         mill.bake(0);
         is("what didn't happen can't be undone", mill.count(8), 1);
+        mill = Due.mill(TWO + "grain 7;");
+        mill.confess(0, 0);
+        mill.confess(0, 0);
+        mill.undo();
+        is("what was left of the grain comes again", mill.count(9), 2);
         mill = Due.mill(TWO + "cake d 0 5 9;");
         mill.confess(1, 1);
         mill.confess(1, 1);
@@ -111,6 +116,51 @@ public final class UndoneTest {
         is("back to that", mill.back(), 3);
     }
 
+    private static void nothingBehindBack() {
+        ConfessionMill mill = Due.mill(TWO + "seed 1;person r 50 did a 1;");
+        mill.fall(0, 0);
+        mill.keep();
+        mill.fall(0, 0);
+        mill.back();
+        is("nothing to undo behind back", mill.undo(), -1);
+        is("one fall", Due.look(mill, 0, 4), 1);
+        // the numbers of seed 1: 38 is below 50, 58 is not
+        mill.ask(2);
+        is("truly", mill.sack(0, 4), 0);
+        mill.back();
+        mill.ask(2);
+        is("drawn again", mill.sack(0, 4), 0);
+    }
+
+    private static void latestTwenty() {
+        ConfessionMill mill = Due.mill(TWO);
+        for (int k = 0; k < 5; k++) {
+            mill.fall(0, 0);
+        }
+        for (int k = 0; k < 20; k++) {
+            mill.fall(1, 1);
+        }
+        for (int k = 0; k < 20; k++) {
+            mill.undo();
+        }
+        is("the oldest stay", Due.look(mill, 0, 4), 5);
+        is("the latest don't", Due.look(mill, 1, 4), 0);
+    }
+
+    private static void bakedAnew() {
+        ConfessionMill mill = Due.mill(TWO);
+        mill.confess(1, 1);
+        mill.confess(1, 1);
+        mill.bake(0);
+        mill.undo();
+        mill.confess(0, 0);
+        mill.confess(0, 0);
+        mill.bake(0);
+        is("of the coarser now", mill.sack(2, 3) * 10 + mill.sack(3, 3), 2);
+        mill.undo();
+        is("just what was taken comes again", mill.count(11), 20);
+    }
+
     private static void tapeStays() {
         ConfessionMill mill = new ConfessionMill();
         mill.feed(0, 0, 0, 0, 0);
@@ -139,6 +189,9 @@ public final class UndoneTest {
         undo();
         refused();
         images();
+        nothingBehindBack();
+        latestTwenty();
+        bakedAnew();
         tapeStays();
         count();
         Due.end("UndoneTest");
