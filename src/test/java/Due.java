@@ -68,6 +68,22 @@ final class Due {
         return mill;
     }
 
+    /** A text with a fault at a place, told to a new mill. */
+    static void faultIs(String text, int what, int place) {
+        ConfessionMill mill = new ConfessionMill();
+        due("text of [" + text + "]", tell(mill, text), -1);
+        due("fault(0) of [" + text + "]", mill.fault(0), what);
+        due("fault(1) of [" + text + "]", mill.fault(1), place);
+    }
+
+    /** A text without a fault, told to a new mill. */
+    static void linesAre(String text, int lines) {
+        ConfessionMill mill = new ConfessionMill();
+        due("text of [" + text + "]", tell(mill, text), lines);
+        due("fault(0) of [" + text + "]", mill.fault(0), 0);
+        due("fault(1) of [" + text + "]", mill.fault(1), -1);
+    }
+
     static int letters(String name) {
         int code = 0;
         for (int k = 0; k < 6; k++) {

@@ -76,132 +76,118 @@ public final class TextTest {
         is("grist as without", mill.confess(0, 0) == 0 ? mill.sack(0, 3) : -9, 5);
     }
 
-    private static void faultIs(String text, int what, int place) {
-        ConfessionMill mill = new ConfessionMill();
-        is("text of [" + text + "]", Due.tell(mill, text), -1);
-        is("fault(0) of [" + text + "]", mill.fault(0), what);
-        is("fault(1) of [" + text + "]", mill.fault(1), place);
-    }
-
-    private static void linesAre(String text, int lines) {
-        ConfessionMill mill = new ConfessionMill();
-        is("text of [" + text + "]", Due.tell(mill, text), lines);
-        is("fault(0) of [" + text + "]", mill.fault(0), 0);
-        is("fault(1) of [" + text + "]", mill.fault(1), -1);
-    }
-
     private static void cannotStand() {
-        faultIs(";", 1, 0);
-        faultIs("  1;", 1, 2);
-        faultIs("did a 1;", 1, 0);
-        faultIs("sin", 1, 3);
-        faultIs("sin a", 1, 5);
-        faultIs("sin a 1", 1, 7);
-        faultIs("sin a 1 \n ", 1, 10);
-        faultIs("sin a;", 1, 5);
-        faultIs("sin 1 a;", 1, 4);
-        faultIs("sin a 1 2;", 1, 8);
-        faultIs("sin a 1;;", 1, 8);
-        faultIs("sin A 1;", 1, 4);
-        faultIs("sin abcdefg 1;", 1, 4);
-        faultIs("person p 1;persons q 1;", 1, 11);
-        faultIs("sin day 1;", 1, 4);
-        faultIs("sin sin 1;", 1, 4);
-        faultIs("sin a\t1;", 1, 5);
-        faultIs("sin a 1\r;", 1, 7);
-        faultIs("sin a -1;", 1, 6);
-        faultIs("sin a 1." , 1, 7);
-        faultIs("sin a 1;person p 1 did did 1;", 1, 23);
-        faultIs("sin a 1;person p 1 did 1;", 1, 23);
-        faultIs("sin a 1;person p 1 did a;", 1, 24);
-        faultIs("cake c 1 1;", 1, 10);
-        faultIs("grain;", 1, 5);
-        faultIs("law foo 1;", 1, 4);
-        faultIs("law sin 1;", 1, 4);
-        faultIs("may 1;", 1, 4);
-        faultIs("law grind 1 2;", 1, 12);
-        faultIs("law grind (1;", 1, 12);
-        faultIs("law grind 1);", 1, 11);
-        faultIs("law grind ();", 1, 11);
-        faultIs("law grind - 1;", 1, 10);
-        faultIs("law grind 1 +;", 1, 13);
-        faultIs("law grind 1 +", 1, 13);
-        faultIs("law grind gin;", 1, 10);
-        faultIs("law grind 1 < 2 < 3;", 1, 16);
-        faultIs("law grind not 1 = 2 <> 3;", 1, 20);
-        faultIs("law grind 1 < = 2;", 1, 14);
-        faultIs("law grind 1 > < 2;", 1, 14);
-        faultIs("law grind 1 >< 2;", 1, 13);
-        faultIs("law grind 1 <>= 2;", 1, 14);
-        faultIs("law grind 1 =< 2;", 1, 13);
-        faultIs("law grind 1 + not 2;", 1, 14);
-        faultIs("law grind 1 = not 2;", 1, 14);
-        faultIs("law grind 1 not 2;", 1, 12);
-        faultIs("law grind and;", 1, 10);
-        faultIs("law grind ((((((((1(;", 1, 19);
-        faultIs("sin a " + (char) 233 + ";", 1, 6);
+        Due.faultIs(";", 1, 0);
+        Due.faultIs("  1;", 1, 2);
+        Due.faultIs("did a 1;", 1, 0);
+        Due.faultIs("sin", 1, 3);
+        Due.faultIs("sin a", 1, 5);
+        Due.faultIs("sin a 1", 1, 7);
+        Due.faultIs("sin a 1 \n ", 1, 10);
+        Due.faultIs("sin a;", 1, 5);
+        Due.faultIs("sin 1 a;", 1, 4);
+        Due.faultIs("sin a 1 2;", 1, 8);
+        Due.faultIs("sin a 1;;", 1, 8);
+        Due.faultIs("sin A 1;", 1, 4);
+        Due.faultIs("sin abcdefg 1;", 1, 4);
+        Due.faultIs("person p 1;persons q 1;", 1, 11);
+        Due.faultIs("sin day 1;", 1, 4);
+        Due.faultIs("sin sin 1;", 1, 4);
+        Due.faultIs("sin a\t1;", 1, 5);
+        Due.faultIs("sin a 1\r;", 1, 7);
+        Due.faultIs("sin a -1;", 1, 6);
+        Due.faultIs("sin a 1." , 1, 7);
+        Due.faultIs("sin a 1;person p 1 did did 1;", 1, 23);
+        Due.faultIs("sin a 1;person p 1 did 1;", 1, 23);
+        Due.faultIs("sin a 1;person p 1 did a;", 1, 24);
+        Due.faultIs("cake c 1 1;", 1, 10);
+        Due.faultIs("grain;", 1, 5);
+        Due.faultIs("law foo 1;", 1, 4);
+        Due.faultIs("law sin 1;", 1, 4);
+        Due.faultIs("may 1;", 1, 4);
+        Due.faultIs("law grind 1 2;", 1, 12);
+        Due.faultIs("law grind (1;", 1, 12);
+        Due.faultIs("law grind 1);", 1, 11);
+        Due.faultIs("law grind ();", 1, 11);
+        Due.faultIs("law grind - 1;", 1, 10);
+        Due.faultIs("law grind 1 +;", 1, 13);
+        Due.faultIs("law grind 1 +", 1, 13);
+        Due.faultIs("law grind gin;", 1, 10);
+        Due.faultIs("law grind 1 < 2 < 3;", 1, 16);
+        Due.faultIs("law grind not 1 = 2 <> 3;", 1, 20);
+        Due.faultIs("law grind 1 < = 2;", 1, 14);
+        Due.faultIs("law grind 1 > < 2;", 1, 14);
+        Due.faultIs("law grind 1 >< 2;", 1, 13);
+        Due.faultIs("law grind 1 <>= 2;", 1, 14);
+        Due.faultIs("law grind 1 =< 2;", 1, 13);
+        Due.faultIs("law grind 1 + not 2;", 1, 14);
+        Due.faultIs("law grind 1 = not 2;", 1, 14);
+        Due.faultIs("law grind 1 not 2;", 1, 12);
+        Due.faultIs("law grind and;", 1, 10);
+        Due.faultIs("law grind ((((((((1(;", 1, 19);
+        Due.faultIs("sin a " + (char) 233 + ";", 1, 6);
     }
 
     private static void tooMuch() {
-        faultIs("sin a 0100;", 2, 6);
-        faultIs("sin a 99999999999999999999999999;", 2, 6);
-        faultIs("sin a 4294967297;", 2, 6);
-        faultIs("person p 101;", 2, 9);
-        faultIs("sin a 1;person p 1 did a 0;", 2, 25);
-        faultIs("sin a 1;person p 1 did a 10;", 2, 25);
-        faultIs("cake c 1000 1 1;", 2, 7);
-        faultIs("cake c 1 100 1;", 2, 9);
-        faultIs("cake c 1 1 100;", 2, 11);
-        faultIs("grist 100;", 2, 6);
-        faultIs("law grind 10000;", 2, 10);
-        faultIs("sin a 1;sin b 1;sin c 1;sin d 1;sin", 2, 32);
-        faultIs("person a 1;person b 1;person c 1;person d 1;person e 1;person f 1;", 2, 55);
-        faultIs("cake a 1 1 1;cake b 1 1 1;cake c 1 1 1;cake d 1 1 1;cake e 1 1 1;cake a 1 1 1;", 2, 65);
-        faultIs("may a 1;may b 1;may c 1;may d 1;", 2, 24);
-        faultIs("law grind (((((((((1;", 2, 18);
-        linesAre("law grind ((((((((1)))))))) + ((((((((1))))))));", 1);
-        linesAre("law grind (1)+(1)+(1)+(1)+(1)+(1)+(1)+(1)+(1)+(1);", 1);
+        Due.faultIs("sin a 0100;", 2, 6);
+        Due.faultIs("sin a 99999999999999999999999999;", 2, 6);
+        Due.faultIs("sin a 4294967297;", 2, 6);
+        Due.faultIs("person p 101;", 2, 9);
+        Due.faultIs("sin a 1;person p 1 did a 0;", 2, 25);
+        Due.faultIs("sin a 1;person p 1 did a 10;", 2, 25);
+        Due.faultIs("cake c 1000 1 1;", 2, 7);
+        Due.faultIs("cake c 1 100 1;", 2, 9);
+        Due.faultIs("cake c 1 1 100;", 2, 11);
+        Due.faultIs("grist 100;", 2, 6);
+        Due.faultIs("law grind 10000;", 2, 10);
+        Due.faultIs("sin a 1;sin b 1;sin c 1;sin d 1;sin", 2, 32);
+        Due.faultIs("person a 1;person b 1;person c 1;person d 1;person e 1;person f 1;", 2, 55);
+        Due.faultIs("cake a 1 1 1;cake b 1 1 1;cake c 1 1 1;cake d 1 1 1;cake e 1 1 1;cake a 1 1 1;", 2, 65);
+        Due.faultIs("may a 1;may b 1;may c 1;may d 1;", 2, 24);
+        Due.faultIs("law grind (((((((((1;", 2, 18);
+        Due.linesAre("law grind ((((((((1)))))))) + ((((((((1))))))));", 1);
+        Due.linesAre("law grind (1)+(1)+(1)+(1)+(1)+(1)+(1)+(1)+(1)+(1);", 1);
         String knots63 = "1" + "+1".repeat(31);
-        linesAre("law wear " + knots63 + ";law want 1;", 2);
-        faultIs("law wear " + knots63 + ";law want 1+1;", 2, 83);
-        faultIs("law wear " + knots63 + ";may m 1;law want (worth);", 2, 91);
-        faultIs("law wear " + knots63 + ";law want not 1;", 2, 86);
-        faultIs("law wear " + knots63 + ";law want 1 1;", 1, 84);
+        Due.linesAre("law wear " + knots63 + ";law want 1;", 2);
+        Due.faultIs("law wear " + knots63 + ";law want 1+1;", 2, 83);
+        Due.faultIs("law wear " + knots63 + ";may m 1;law want (worth);", 2, 91);
+        Due.faultIs("law wear " + knots63 + ";law want not 1;", 2, 86);
+        Due.faultIs("law wear " + knots63 + ";law want 1 1;", 1, 84);
         is("64 knots", Due.mill("law wear " + knots63 + ";law want lie;").count(4), 64);
-        linesAre("sin a 0;sin b 99;person p 0 did a 9 did b 1;person q 100;cake c 0 1 0;cake d 999 99 99;", 6);
-        linesAre("grain 0;grist 1;stone 0;seed 0;law grind 9999;", 5);
-        linesAre("grain 9999;grist 99;stone 999;seed 99999;law grind 0;", 5);
+        Due.linesAre("sin a 0;sin b 99;person p 0 did a 9 did b 1;person q 100;cake c 0 1 0;cake d 999 99 99;", 6);
+        Due.linesAre("grain 0;grist 1;stone 0;seed 0;law grind 9999;", 5);
+        Due.linesAre("grain 9999;grist 99;stone 999;seed 99999;law grind 0;", 5);
     }
 
     private static void toldAlready() {
-        faultIs("sin a 1;sin a 1;", 3, 12);
-        faultIs("person p 1;person p 2;", 3, 18);
-        faultIs("cake c 1 1 1;cake c", 3, 18);
-        faultIs("may m 1;may m 1;", 3, 12);
-        faultIs("sin a 1;person p 1 did a 1 did a 1;", 3, 31);
-        faultIs("grain 1;grain", 3, 8);
-        faultIs("grist 1;grain 1;grist 1;", 3, 16);
-        faultIs("stone 1;stone 1;", 3, 8);
-        faultIs("seed 1;seed 1;", 3, 7);
-        faultIs("law pair 1;law pair 1;", 3, 15);
-        linesAre("sin a 1;person a 1 did a 1;person b 1 did a 1;cake a 1 1 1;may a 1;", 5);
-        linesAre("law grind 1;law wear 1;law want 1;law pair 1;may a 1;may b 1;may c 1;", 7);
+        Due.faultIs("sin a 1;sin a 1;", 3, 12);
+        Due.faultIs("person p 1;person p 2;", 3, 18);
+        Due.faultIs("cake c 1 1 1;cake c", 3, 18);
+        Due.faultIs("may m 1;may m 1;", 3, 12);
+        Due.faultIs("sin a 1;person p 1 did a 1 did a 1;", 3, 31);
+        Due.faultIs("grain 1;grain", 3, 8);
+        Due.faultIs("grist 1;grain 1;grist 1;", 3, 16);
+        Due.faultIs("stone 1;stone 1;", 3, 8);
+        Due.faultIs("seed 1;seed 1;", 3, 7);
+        Due.faultIs("law pair 1;law pair 1;", 3, 15);
+        Due.linesAre("sin a 1;person a 1 did a 1;person b 1 did a 1;cake a 1 1 1;may a 1;", 5);
+        Due.linesAre("law grind 1;law wear 1;law want 1;law pair 1;may a 1;may b 1;may c 1;", 7);
     }
 
     private static void notTold() {
-        faultIs("person p 1 did a 1;sin a 1;", 4, 15);
-        faultIs("sin a 1;person p 1 did p 1;", 4, 23);
-        faultIs("cake a 1 1 1;person p 1 did a 1;", 4, 28);
+        Due.faultIs("person p 1 did a 1;sin a 1;", 4, 15);
+        Due.faultIs("sin a 1;person p 1 did p 1;", 4, 23);
+        Due.faultIs("cake a 1 1 1;person p 1 did a 1;", 4, 28);
     }
 
     private static void tokens() {
-        linesAre("", 0);
-        linesAre(" \n\n ", 0);
-        linesAre("sin a1;", 1);
-        linesAre("sin\na\n007;person p1did a1;", 2);
-        linesAre("sin abcdef 99;", 1);
-        linesAre("law grind 1<2;law wear 1<=2;law want 1<>2;law pair 1>=2;", 4);
-        linesAre("law grind 1>2or 3=4and not(1);", 1);
+        Due.linesAre("", 0);
+        Due.linesAre(" \n\n ", 0);
+        Due.linesAre("sin a1;", 1);
+        Due.linesAre("sin\na\n007;person p1did a1;", 2);
+        Due.linesAre("sin abcdef 99;", 1);
+        Due.linesAre("law grind 1<2;law wear 1<=2;law want 1<>2;law pair 1>=2;", 4);
+        Due.linesAre("law grind 1>2or 3=4and not(1);", 1);
     }
 
     private static void named() {
