@@ -59,7 +59,7 @@ public final class ConfessedEdgesTest {
     // "NONE: no such ones." of did, fine, law, confess, ask, fall
     private static void noSuchOnes() {
         ConfessionMill mill = used();
-        for (int none : noneOf(2)) {
+        for (int none : new int[] {-1, 2, LEAST, MOST}) {
             is("did(" + none + ", 0, 0)", mill.did(none, 0, 0), -1);
             is("did(0, " + none + ", 1)", mill.did(0, none, 1), -1);
             is("did(0, 0, " + none + ")", mill.did(0, 0, none), -1);
@@ -293,6 +293,12 @@ public final class ConfessedEdgesTest {
         valueIs("(1000 * 1000 + 1) * (1000 * 1000 - 1)", 999999999999L);
         valueIs("(0 - 1000 * 1000) * (1000 * 1000)", -1000000000000L);
         valueIs("(0 - 1000 * 1000 - 1) * (1000 * 1000)", ERROR);
+        // 2 to the 64 and to the 63, which wrap around to 0 and below 0, and what would come out small
+        valueIs("(4096 * 4096 * 256) * (4096 * 4096 * 256)", ERROR);
+        valueIs("(4096 * 4096 * 256) * (4096 * 4096 * 128)", ERROR);
+        valueIs("(0 - 4096 * 4096 * 256) * (4096 * 4096 * 256)", ERROR);
+        valueIs("(0 - 4096 * 4096 * 256) * (0 - 4096 * 4096 * 256)", ERROR);
+        valueIs("(4096 * 4096 * 256) * (4096 * 4096 * 256) + 7", ERROR);
         valueIs("1 / 0", ERROR);
         valueIs("0 / 0", ERROR);
         valueIs("1 / (1 - 1)", ERROR);
@@ -454,6 +460,42 @@ public final class ConfessedEdgesTest {
         mill.undo();
         mill.ask(0);
         is("by 10113 that one, then 17515 modulo 100: a truth", mill.sack(59, 4), 0);
+    }
+
+    // As many PEOPLE and SINS as there may be: each of them by each call
+    private static void fullTable() {
+        StringBuilder text = new StringBuilder("seed 1;grain 9999;sin a 10;sin b 20;sin c 30;sin d 40;");
+        for (int p = 0; p < 5; p++) {
+            text.append("person ").append((char) ('a' + p)).append(" 100 did a 1 did b 2 did c 3 did d 4;");
+        }
+        ConfessionMill mill = Due.mill(text + "law pair worth * 1000 + times;");
+        for (int p = 0; p < 5; p++) {
+            for (int s = 0; s < 4; s++) {
+                is("done", mill.did(p, s, 0), s + 1);
+                is("fall", mill.fall(p, s), s + 1);
+                is("one more", mill.did(p, s, 1), s + 2);
+                is("confess", mill.confess(p, s), p * 4 + s);
+                is("one less", mill.did(p, s, 1), s + 1);
+                is("fine", mill.sack(p * 4 + s, 2), 10 * s + 10);
+            }
+            is("pride", Due.look(mill, p, 3), 10);
+            is("confessed", Due.look(mill, p, 1), 4);
+        }
+        for (int p = 0; p < 5; p++) {
+            is("asked", mill.ask(p), 20 + p);
+            is("d", mill.sack(20 + p, 0) * 10 + mill.sack(20 + p, 1), p * 10 + 3);
+        }
+        // 10 * 1 + 20 * 2 + 30 * 3 + 40 * 3
+        is("pair", mill.law(3, 3, 4), 260260);
+        is("pairs", mill.pairs(), 2 * 260260);
+        for (int k = 0; k < 15; k++) {
+            mill.days(1);
+            is("by itself: d of all by numbers, thrice each", mill.sack(25 + k, 0) * 10 + mill.sack(25 + k, 1), k / 3 * 10 + 3);
+        }
+        is("the last one has no d left", mill.did(4, 3, 1), 0);
+        is("silent", mill.tried(1, 4, 20, 0), 60 * 5);
+        is("all confessed up to 60", mill.days(50), 65);
+        is("60", mill.count(6), 60);
     }
 
     // "how many the PERSON has; -2: the SIN was done 99 times"
@@ -659,6 +701,7 @@ public final class ConfessedEdgesTest {
             is("60 sacks", mill.count(6), 60);
             is("what is left", mill.did(0, 0, 1), size == 59 ? 0 : 1);
             is("baked of what was ground that day, too", mill.baked(0), 0);
+            is("of all sacks of 1", mill.count(11), 0);
         }
         ConfessionMill mill = Due.mill("sin a 3;person p 1 did a 9;cake c 3 6 1;cake d 3 4 1;cake e 3 3 1;cake f 3 1 0;cake g 3 1 2;");
         mill.days(1);
@@ -713,6 +756,7 @@ public final class ConfessedEdgesTest {
         askedByHonest();
         askedWhich();
         notDrawn();
+        fullTable();
         fall();
         sackAndFlour();
         bake();

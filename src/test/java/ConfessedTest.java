@@ -129,6 +129,37 @@ public final class ConfessedTest {
         valueIs("(4096 * 4096 * 256) * (4096 * 4096 * 256)", ERROR);
     }
 
+    // Every sign beside every other, with brackets and not, as the plain model reads it.
+    private static void signsTogether() {
+        String[] signs = {"or", "and", "<", "<=", "=", "<>", ">=", ">", "+", "-", "*", "/"};
+        int[][] sides = {{0, 1, 1}, {1, 0, 0}, {5, 2, 3}, {2, 7, 2}, {3, 3, 1}};
+        for (String first : signs) {
+            for (String second : signs) {
+                for (int[] n : sides) {
+                    sameValue(n[0] + " " + first + " " + n[1] + " " + second + " " + n[2]);
+                    sameValue("(" + n[0] + " " + first + " " + n[1] + ") " + second + " " + n[2]);
+                    sameValue(n[0] + " " + first + " (" + n[1] + " " + second + " " + n[2] + ")");
+                    sameValue("not " + n[0] + " " + first + " " + n[1] + " " + second + " " + n[2]);
+                    sameValue(n[0] + " " + first + " not " + n[1] + " " + second + " " + n[2]);
+                    sameValue("not (" + n[0] + " " + first + " " + n[1] + ") " + second + " " + n[2]);
+                }
+            }
+        }
+    }
+
+    private static void sameValue(String law) {
+        String text = "sin a 7;person p 30;law wear " + law + ";";
+        ConfessionMill mill = new ConfessionMill();
+        PlainMill plain = new PlainMill();
+        int[] n = Due.numbersOf(text);
+        for (int k = 0; k < n.length; k += 5) {
+            plain.feed(new int[] {n[k], n[k + 1], n[k + 2], n[k + 3], n[k + 4]});
+        }
+        is("text of " + law, Due.tell(mill, text), plain.text(text.length()));
+        is("fault of " + law, mill.fault(1), plain.fault(1));
+        is("value of " + law, mill.law(1, 0, 0), plain.law(1, 0, 0));
+    }
+
     private static void law() {
         ConfessionMill mill = Due.mill(TWO + "law wear 9999 + lie;law want worth - 20;"
             + "law pair worth * 1000 + times * 100 + pride * 10 + honest + lie + worn;person r 5;");
@@ -354,6 +385,7 @@ public final class ConfessedTest {
         did();
         fine();
         values();
+        signsTogether();
         law();
         confess();
         ask();

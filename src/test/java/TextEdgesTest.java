@@ -132,6 +132,74 @@ public final class TextEdgesTest {
         }
     }
 
+    // Also behind many texts, with and without a FAULT, nothing of an earlier one is left
+    private static void manyTexts() {
+        String rich = "grain 77;grist 9;stone 8;seed 6;sin a 7;sin b 3;person p 40 did a 2 did b 1;person q 70 did b 2;cake c 3 6 4;"
+            + "law grind worth + 1;law wear 9;law want 9 - worth;law pair honest;may m worth;";
+        String bare = "sin z 4;sin y 5;person x 50;person w 60 did y 1;cake v 0 5 0;";
+        String open = "law grind ((((((((1 + not";
+        String nots = "law grind not not not (((";
+        tellAll(rich, rich, bare, bare);
+        tellAll(rich, bare, rich, "");
+        tellAll(rich, open, bare, open);
+        tellAll(nots, rich, nots, rich);
+        tellAll(bare, rich, "", bare);
+        tellAll("", "", rich, bare);
+        tellAll(rich, "", "sin a 7;sin b 1;person p 39 did a 1;grain 50;");
+        String many = "sin a 7;person p 39;law grind " + "not ".repeat(40) + "9;may m worth * " + "1 * ".repeat(10) + "2;";
+        tellAll(many, many, many, many, bare, many);
+    }
+
+    /** Tells one text behind another, uses the mill in between, and compares it with a new one each time. */
+    private static void tellAll(String... texts) {
+        ConfessionMill mill = new ConfessionMill();
+        ConfessionMill other = mill;
+        String told = "";
+        for (String text : texts) {
+            mill.confess(0, 0);
+            mill.confess(1, 0);
+            mill.fall(0, 1);
+            if (Due.tell(mill, text) < 0) {
+                Due.tell(mill, told);
+            } else {
+                told = text;
+            }
+            other = new ConfessionMill();
+            Due.tell(other, told);
+            Seen.same("behind many texts, [" + told + "]", mill, other);
+        }
+        for (int k = 0; k < 6; k++) {
+            is("asked behind many texts, [" + told + "]", mill.ask(k % 2), other.ask(k % 2));
+        }
+        Seen.same("asked behind many texts, [" + told + "]", mill, other);
+    }
+
+    // "the first n bytes": what is behind them is none of the text, be it letters or digits
+    private static void cutWithinTokens() {
+        cutIs("sin a 100;", 8, 1, 8);
+        cutIs("sin a 100;", 9, 2, 6);
+        cutIs("law wear 1;", 7, 1, 4);
+        cutIs("law wear 1;", 8, 1, 8);
+        cutIs("sin abcdefg 1;", 10, 1, 10);
+        cutIs("sin abcdefg 1;", 11, 1, 4);
+        cutIs("law wear lies;", 12, 1, 12);
+        cutIs("law wear lies;", 13, 1, 9);
+        Due.faultIs("sin " + "x".repeat(696), 1, 4);
+        Due.faultIs("sin a " + "9".repeat(694), 2, 6);
+        Due.faultIs("law wear 1" + "<".repeat(690), 1, 11);
+        Due.faultIs(";".repeat(700), 1, 0);
+        Due.faultIs("(".repeat(699), 1, 0);
+    }
+
+    private static void cutIs(String text, int n, int what, int place) {
+        ConfessionMill mill = new ConfessionMill();
+        int[] numbers = Due.numbersOf(text);
+        mill.feed(numbers[0], numbers[1], numbers[2], numbers[3], numbers[4]);
+        is("text(" + n + ") of [" + text + "]", mill.text(n), -1);
+        is("its fault", mill.fault(0), what);
+        is("its place", mill.fault(1), place);
+    }
+
     // "NONE with a FAULT, all stays"
     private static void faultLeavesAll() {
         String[] texts = {"sin z 1;?", "sin z 100;", "sin z 1;sin z 2;", "person z 1 did z 1;", "sin z 1;sin y 2;person x 9;law"};
@@ -419,6 +487,14 @@ public final class TextEdgesTest {
             Due.faultIs(kind + "(".repeat(8) + "1" + ")".repeat(7) + ";", 1, kind.length() + 16);
             Due.faultIs(kind + "(".repeat(8) + "1" + ")".repeat(9) + ";", 1, kind.length() + 17);
         }
+        is("63 not of 1", Due.mill("sin a 1;person p 1;law wear " + "not ".repeat(63) + "1;").law(1, 0, 0), 0);
+        String nots = "((((((((" + "not ".repeat(62) + "(1))))))))";
+        Due.faultIs("law wear " + nots + ");", 2, 9 + 8 + 62 * 4);
+        nots = "(((((((" + "not ".repeat(62) + "(5))))))))";
+        is("62 not of 5 in eight", Due.mill("sin a 1;person p 1;law wear " + nots + ";").law(1, 0, 0), 1);
+        nots = "((((((((" + "not ".repeat(63) + "5))))))))";
+        is("63 not of 5 in eight", Due.mill("sin a 1;person p 1;law wear " + nots + ";").law(1, 0, 0), 0);
+        Due.linesAre("law wear 1 + (not 1);law want 1 < (not (2 < 3));", 2);
         String eight = "((((((((1))))))))";
         Due.linesAre("law grind " + eight + ";law wear " + eight + "*" + eight + ";may m " + eight + ";", 3);
         Due.linesAre("law grind " + "(1)+".repeat(20) + "1;", 1);
@@ -573,6 +649,15 @@ public final class TextEdgesTest {
         for (int what : new int[] {-1, 4, 5, LEAST, MOST}) {
             is("named(" + what + ")", mill.named(what, 1 << 25), -1);
         }
+        String[][] full = {{"a", "b", "c", "d"}, {"e", "f", "g", "h", "i"}, {"j", "k", "l", "m", "n"}, {"o", "p", "q"}};
+        ConfessionMill whole = Due.mill("may o 1;cake j 1 1 1;person e 1;sin a 1;sin b 1;sin c 1;sin d 1;person f 1;person g 1;person h 1;"
+            + "person i 1;cake k 1 1 1;cake l 1 1 1;cake m 1 1 1;cake n 1 1 1;may p 1;may q 1;");
+        for (int what = 0; what < 4; what++) {
+            for (char letter = 'a'; letter <= 'z'; letter++) {
+                int want = java.util.Arrays.asList(full[what]).indexOf(String.valueOf(letter));
+                is("of a full text, " + what + " " + letter, whole.named(what, letter - 'a' + 1 << 25), want);
+            }
+        }
         String[] names = {"a", "q", "r", "s"};
         for (int what = 0; what < 4; what++) {
             for (int k = 0; k < 4; k++) {
@@ -587,6 +672,8 @@ public final class TextEdgesTest {
         bytesOfNumbers();
         textOfSoMany();
         allBeginsAnew();
+        manyTexts();
+        cutWithinTokens();
         faultLeavesAll();
         latestFault();
         words();

@@ -96,7 +96,11 @@ public final class ThoughtEdgesTest {
     private static void bestOfPlans() {
         planIs("no falls by four, not one fall by one",
             Due.mill("sin a 3;sin b 0;person p 1 did b 9;law grind worth + times;cake c 3 1 0;"), 0, 1, 1, 1, 1);
-        planIs("one fall by two, not two by one of each",
+        planIs("no falls by four, not one fall by one that comes behind",
+            Due.mill("sin a 0;sin b 3;person p 1 did a 9;law grind worth + times;cake c 3 1 0;"), 0, 0, 0, 0, 0);
+        planIs("one fall by one, not by two that come ahead",
+            Due.mill("sin a 4;sin b 5;person p 1;law grind worth + times;cake c 5 1 0;"), 1, 1);
+        planIs("one fall by two",
             Due.mill("sin a 9;person p 1 did a 1;person q 1;cake c 9 10 0;"), 1, 0, 0);
         planIs("one confession of the second, not two of the first",
             Due.mill("sin a 5;sin b 10;person p 1 did a 2;person q 1 did b 1;law grind worth + times * 5;cake c 10 5 0;"), 0, 11);
@@ -134,6 +138,62 @@ public final class ThoughtEdgesTest {
         planIs("on day 100", mill, 0, 0);
         planIs("no people", Due.mill("sin a 9;cake c 0 1 0;"), -2);
         planIs("no sins", Due.mill("person p 9;cake c 0 1 0;"), -2);
+    }
+
+    // A plan is of the mill as it is now: behind each call that changes it, it is another
+    private static void plansNow() {
+        ConfessionMill mill = Due.mill("sin a 9;sin b 8;person p 1 did a 1;cake c 9 10 0;cake d 8 5 0;");
+        planIs("at first", mill, 1, 0, 0);
+        mill.fall(0, 0);
+        planIs("behind a fall", mill, 0, 0, 0);
+        mill.confess(0, 0);
+        planIs("behind a confession", mill, 0, 0);
+        mill.undo();
+        planIs("undone", mill, 0, 0, 0);
+        mill.undo();
+        planIs("all undone", mill, 1, 0, 0);
+        mill.keep();
+        mill.confess(0, 0);
+        planIs("kept, then confessed", mill, 1, 0);
+        mill.bake(1);
+        planIs("its flour is gone", mill, 2, 0, 0);
+        mill.undo();
+        planIs("and is there again", mill, 1, 0);
+        mill.back();
+        planIs("back", mill, 1, 0, 0);
+        mill.fall(0, 0);
+        planIs("ahead of a day", mill, 0, 0, 0);
+        mill.days(1);
+        // on that day a was confessed, and the second cake baked of it
+        planIs("behind a day", mill, 1, 0, 0);
+        Due.tell(mill, "sin");
+        planIs("behind a fault", mill, 1, 0, 0);
+        Due.tell(mill, "sin a 9;person p 1 did a 9;cake c 9 15 0;");
+        planIs("behind a text", mill, 0, 0, 0, 0);
+        Due.tell(mill, "seed 1;sin a 9;person p 100 did a 2;cake c 9 10 0;");
+        planIs("another text", mill, 0, 0, 0);
+        mill.ask(0);
+        planIs("behind one asked", mill, 0, 0);
+        is("planned, not asked for the plan", Due.mill("sin a 1;sin b 2;person p 1;person q 1 did b 1;cake c 2 1 0;").planned(0, 0, 0), 1);
+        is("its sin", Due.mill("sin a 1;sin b 2;person p 1;person q 1 did b 1;cake c 2 1 0;").planned(0, 0, 1), 1);
+    }
+
+    private static void planOfEach() {
+        String cakes = "cake a 0 1 0;cake b 5 6 0;cake c 9 5 0;cake d 9 20 0;cake e 10 1 0;";
+        int[] falls = {0, 1, 0, 3, -2};
+        int[] steps = {1, 2, 1, 4, -2};
+        int[] first = {0, 0, 1, 0, -2};
+        int[] sins = {0, 1, 1, 1, -2};
+        for (int turn = 0; turn < 5; turn++) {
+            ConfessionMill mill = Due.mill("sin a 1;sin b 9;person p 1 did a 1;person q 1 did b 1;" + cakes);
+            for (int k = 0; k < 10; k++) {
+                int cake = (turn + k * 3) % 5;
+                is("falls of cake " + cake, mill.plan(cake, 0), falls[cake]);
+                is("confessions of cake " + cake, mill.plan(cake, 1), steps[cake]);
+                is("first person of cake " + cake, mill.planned(cake, 0, 0), first[cake]);
+                is("first sin of cake " + cake, mill.planned(cake, 0, 1), sins[cake]);
+            }
+        }
     }
 
     // "NONE: no such ones, baked."
@@ -202,6 +262,7 @@ public final class ThoughtEdgesTest {
         crumbIs(four + "person p 75 did d 1;law grind 9 - lie;", 0, 3, 8, 0, 0, 1);
         crumbIs(four + "person p 75 did d 1;law grind worth * 999;", 0, 3, 8, 7, 1, 2);
         crumbIs(four + "person p 75 did d 1;law grind 5 / (worth - 5);", 0, 3, 8, 7, 1, 2);
+        crumbThen();
         is("no sack", new ConfessionMill().crumb(0, 0), -1);
         ConfessionMill mill = used();
         for (int none : noneOf(2)) {
@@ -211,6 +272,21 @@ public final class ThoughtEdgesTest {
             is("crumb(0, " + none + ")", mill.crumb(0, none), -1);
         }
         Seen.unchanged("crumb", ThoughtEdgesTest::used, one -> one.crumb(1, 0), 1);
+    }
+
+    // "as all was then": by each name alone the two SINS differ now, but did not then, or the other way round
+    private static void crumbThen() {
+        for (String name : new String[] {"times", "worn", "2 - pride", "day"}) {
+            // the second sin is as fine as the first as long as the name is 0
+            ConfessionMill mill = Due.mill("sin a 5;sin b 6;person p 50 did a 1 did b 1;law want 0;law grind 5 + (worth - 5) * (" + name + ");");
+            mill.confess(0, 0);
+            is("then 0: " + name, mill.crumb(0, 0), 3);
+            mill.days(1);
+            mill.confess(0, 0);
+            is("then above 0: " + name, mill.crumb(1, 1), 1);
+            is("b isn't as fine: " + name, mill.crumb(1, 0), 0);
+            is("as it was: " + name, mill.crumb(0, 0), 3);
+        }
     }
 
     // ---- RUN, TRIED ----
@@ -374,6 +450,12 @@ public final class ThoughtEdgesTest {
         is("ten of d: the first five", four.mills(10, -1, 1), 31);
         is("the greatest number: d and so on", four.mills(10, MOST, 0), 25);
         is("bits above all are none of the row", four.mills(1, LEAST, 0), 8);
+        for (int row : new int[] {LEAST, 1 << 30, -4, 4, -1 << 20, 1 << 20}) {
+            is("nor where there is one sin, " + row, Due.mill("sin a 8;").mills(1, row, 0), 8);
+            is("which of it, " + row, Due.mill("sin a 8;").mills(1, row, 1), 0);
+        }
+        is("the tenth is of the row", Due.mill("sin a 8;").mills(10, 1 << 18, 0), -1);
+        is("behind the tenth is not", Due.mill("sin a 8;").mills(10, 1 << 20, 0), 40);
         Seen.unchanged("mills", ThoughtEdgesTest::used, one -> one.mills(3, 4, 0), 20);
     }
 
@@ -422,7 +504,9 @@ public final class ThoughtEdgesTest {
             pairedIs("of equal sums", Due.mill(text + "law pair 9;"), size == 0 ? ERROR : 9 * (size / 2), told[size]);
             pairedIs("of equal sums below 0", Due.mill(text + "law pair 0 - 9;"), size == 0 ? ERROR : -9 * (size / 2), told[size]);
             pairedIs("the greatest", Due.mill(text + "law pair honest;"), sums[size], honest[size]);
-            is("the greatest below 0", Due.mill(text + "law pair 0 - honest;").pairs(), low[size]);
+            ConfessionMill below = Due.mill(text + "law pair 0 - honest;");
+            is("the greatest below 0", below.pairs(), low[size]);
+            is("and asked again", below.pairs(), low[size]);
             text.append(size < 5 ? people[size] : "");
         }
         Seen.unchanged("pairs", ThoughtEdgesTest::used, ConfessionMill::pairs, 27 - 47);
@@ -444,9 +528,33 @@ public final class ThoughtEdgesTest {
         String five = "person a 1;person b 2;person c 3;person d 4;person e 5;";
         pairedIs("an ERROR is 0, which is above -1", Due.mill("person a 1;person b 2;person c 3;law pair 0 - 1 / (3 - honest);"), 0, 2, -2, 0);
         pairedIs("only with e", Due.mill(five + "law pair honest = 5;"), 1, 1, 0, 4, -2, 2);
+        pairedIs("the first is left", Due.mill("sin s 1;person a 1;person b 1 did s 1;person c 1;law pair pride;"), 1, -2, 2, 1);
+        pairedIs("the second is left", Due.mill("sin s 1;person a 1 did s 1;person b 1;person c 2;law pair pride * honest;"), 2, 2, -2, 0);
+        pairedIs("the first of five is left", Due.mill("sin s 1;person a 1;person b 1 did s 9;person c 1;person d 1 did s 9;person e 1;"
+            + "law pair pride - times * 9;"), 18, -2, 2, 1, 4, 3);
         // far values: two of 10 to the 12 are no ERROR in sum
         String far = "law pair 9999 * 9999 * 9999 + 9999 * 9999 * 3 + 9999 * 3 + 1;";
         pairedIs("two far ones", Due.mill("person a 1;person b 2;person c 3;person d 4;" + far), 2000000000000L, 1, 0, 3, 2);
+    }
+
+    // "worth: all WORTH LEFT of the first one in sum, times: that of the other one; pride: of the first; honest: of the other one; lie 0"
+    private static void namesOfPair() {
+        String text = "sin a 1;sin b 10;sin c 20;sin d 30;person p 5 did a 2 did d 1;person q 7 did b 3 did c 1;person r 9;stone 4;";
+        String[] names = {"worth", "times", "worn", "pride", "lie", "honest", "day"};
+        long[][] want = {{32, 50, 4, 3, 0, 7, 0}, {32, 0, 4, 3, 0, 9, 0}, {50, 0, 4, 4, 0, 9, 0}};
+        int[][] of = {{0, 1}, {0, 2}, {1, 2}};
+        for (int k = 0; k < names.length; k++) {
+            ConfessionMill mill = Due.mill(text + "law want 0;law pair " + names[k] + ";");
+            for (int j = 0; j < of.length; j++) {
+                is(names[k] + " of " + of[j][0] + " and " + of[j][1], mill.law(3, of[j][0], of[j][1]), want[j][k]);
+            }
+            mill.confess(0, 3);
+            mill.confess(2, 3);
+            mill.fall(1, 0);
+            mill.days(6);
+            long[] later = {2, 51, 6, 2, 0, 7, 6};
+            is(names[k] + " later", mill.law(3, 0, 1), later[k]);
+        }
     }
 
     // ---- lies ----
@@ -547,7 +655,30 @@ public final class ThoughtEdgesTest {
         mill.confess(0, 1);
         is("below 0 is 0", mill.fits(), 8 + 4 + 2 + 1);
         toCome();
+        eachSack();
         Seen.unchanged("fits", ThoughtEdgesTest::used, ConfessionMill::fits, 3);
+    }
+
+    private static void eachSack() {
+        for (int odd = 0; odd < 3; odd++) {
+            ConfessionMill mill = Due.mill("sin a 5;person p 1;law want 0;law grind 5;may a 5 + (times = " + odd + ");may b 5 + (day = " + odd + ");may c 5 + (worn = " + odd + ");");
+            for (int k = 0; k < 3; k++) {
+                mill.confess(0, 0);
+                mill.days(1);
+                is("other by sack " + odd + " alone, at " + k, mill.fits(), k >= odd ? 8 : 15);
+            }
+            for (int n = 0; n <= 3; n++) {
+                mill.known(n);
+                is("other by sack " + odd + " alone, known by " + n, mill.fits(), n > odd ? 8 : 15);
+            }
+        }
+        ConfessionMill mill = Due.mill("sin a 5;sin b 5;person p 1 did a 1;law grind 5;may a 5 + lie;may b 5 + pride;may c 4 + honest;");
+        mill.confess(0, 0);
+        is("lie and pride as they were", mill.fits(), 8 + 4 + 1);
+        mill.confess(0, 0);
+        is("and then", mill.fits(), 8 + 4);
+        mill.known(0);
+        is("by none", mill.fits(), 15);
     }
 
     private static void toCome() {
@@ -569,6 +700,8 @@ public final class ThoughtEdgesTest {
         needsOfPlan();
         bestOfPlans();
         howPlansGo();
+        plansNow();
+        planOfEach();
         noPlans();
         crumb();
         run();
@@ -580,6 +713,7 @@ public final class ThoughtEdgesTest {
         leastBits();
         paired();
         leastPartner();
+        namesOfPair();
         lies();
         known();
         fits();

@@ -55,6 +55,65 @@ public final class UndoneEdgesTest {
         Seen.sameFromNowOn("all undone", mill, Due.mill(TEXT));
     }
 
+    // Every FALL is undone of the PERSON and the SIN that it was of
+    private static void eachFall() {
+        String text = "sin a 1;sin b 1;sin c 1;sin d 1;person p 1;person q 1;person r 1;person s 1;person t 1;";
+        ConfessionMill mill = Due.mill(text);
+        for (int slot = 0; slot < 20; slot++) {
+            mill.fall(slot / 4, slot % 4);
+        }
+        for (int slot = 19; slot >= 0; slot--) {
+            is("undo to " + slot, mill.undo(), slot);
+            for (int other = 0; other < 20; other++) {
+                is("left of " + other + " at " + slot, mill.did(other / 4, other % 4, 1), other < slot ? 1 : 0);
+            }
+            is("falls of its person", Due.look(mill, slot / 4, 4), slot % 4);
+        }
+    }
+
+    // Every CAKE is undone of the flour that it took, also if it is baked anew of other SACKS
+    private static void eachCake() {
+        String text = "sin a 5;sin b 4;person p 1;cake c 4 3 9;cake d 5 4 9;cake e 4 6 9;cake f 4 1 9;cake g 4 1 9;";
+        ConfessionMill mill = Due.mill(text);
+        mill.confess(0, 0);
+        mill.confess(0, 0);
+        mill.confess(0, 1);
+        int[][] held = {{5, 5, 5}, {5, 5, 2}, {1, 5, 2}, {0, 2, 0}, {0, 1, 0}, {0, 0, 0}};
+        for (int cake = 0; cake < 5; cake++) {
+            is("bake " + cake, mill.bake(cake) ? 1 : 0, 1);
+            heldIs("baked " + cake, mill, held[cake + 1]);
+        }
+        for (int cake = 4; cake >= 0; cake--) {
+            mill.undo();
+            heldIs("undone " + cake, mill, held[cake]);
+            is("not baked " + cake, mill.baked(cake), -2);
+        }
+        mill.bake(2);
+        heldIs("the third, first of all", mill, 4, 5, 0);
+        mill.bake(0);
+        heldIs("then the first", mill, 1, 5, 0);
+        mill.undo();
+        heldIs("which is undone", mill, 4, 5, 0);
+        mill.undo();
+        heldIs("and the other", mill, 5, 5, 5);
+        mill = Due.mill(text);
+        mill.confess(0, 0);
+        mill.bake(3);
+        heldIs("of the only sack", mill, 4);
+        mill.undo();
+        mill.confess(0, 1);
+        mill.bake(3);
+        heldIs("anew, of the coarser one", mill, 5, 4);
+        mill.undo();
+        heldIs("and undone", mill, 5, 5);
+    }
+
+    private static void heldIs(String what, ConfessionMill mill, int... held) {
+        for (int k = 0; k < held.length; k++) {
+            is(what + ": sack " + k, mill.sack(k, 3), held[k]);
+        }
+    }
+
     // "how many are left; NONE: none": NONE changes nothing
     private static void noneIsUndone() {
         Supplier<ConfessionMill> made = () -> {
@@ -232,6 +291,33 @@ public final class UndoneEdgesTest {
         });
     }
 
+    // An IMAGE keeps SACKS that others took the place of since
+    private static void otherSacks() {
+        Supplier<ConfessionMill> made = () -> {
+            ConfessionMill mill = Due.mill("sin a 5;sin b 6;person p 40 did a 2;person q 70 did b 1;grain 13;law want 0;law wear worth;"
+                + "law grind worth + times * 7 + worn * 3 + pride * 11 + lie * 50 + day * 100;may m worth + worn * 3 + lie * 50 + pride * 11;"
+                + "may n worth + times * 7 + worn * 3 + pride * 11 + lie * 50;");
+            mill.confess(0, 0);
+            mill.confess(0, 0);
+            mill.confess(1, 1);
+            mill.keep();
+            return mill;
+        };
+        ConfessionMill mill = made.get();
+        for (int k = 0; k < 3; k++) {
+            mill.undo();
+        }
+        mill.days(1);
+        mill.fall(0, 1);
+        mill.confess(1, 0);
+        mill.confess(0, 1);
+        mill.confess(1, 0);
+        is("back", mill.back(), 0);
+        ConfessionMill twin = made.get();
+        twin.back();
+        Seen.sameFromNowOn("behind others in their place", mill, twin);
+    }
+
     // "An IMAGE is kept (in place of one ahead): which DAY it is."; text: "no IMAGE"
     private static void keep() {
         ConfessionMill mill = new ConfessionMill();
@@ -287,16 +373,22 @@ public final class UndoneEdgesTest {
         mill.days(100);
         counts("on day 100", mill, 4, 5, 5, 3, 64, 100, 60, 60, 0, 9999 - 5940, 999 + 5940, 5841 - 4);
         Seen.unchanged("count", UndoneEdgesTest::kept, one -> one.count(12), -1);
+        mill = Due.mill("sin a 0;person p 1;");
+        mill.confess(0, 0);
+        is("all flour, also of FINE 0", mill.count(11), 5);
     }
 
     public static void main(String[] args) {
         whatCanBe();
+        eachFall();
+        eachCake();
         noneIsUndone();
         twenty();
         sinceADay();
         drawnStays();
         knownStays();
         images();
+        otherSacks();
         keep();
         count();
         Due.end("UndoneEdgesTest");
