@@ -146,6 +146,9 @@ public final class TextEdgesTest {
         tellAll(bare, rich, "", bare);
         tellAll("", "", rich, bare);
         tellAll(rich, "", "sin a 7;sin b 1;person p 39 did a 1;grain 50;");
+        String one = "sin a 7;person p 39 did a 1;person q 1;law wear ";
+        tellAll(one + "not not 5;", one + "not not 6;", one + "7;", one + "8;");
+        tellAll(one + "9 - 5;", one + "9 - 6;", one + "7;law want 3;", one + "8;law pair 3;");
         String many = "sin a 7;person p 39;law grind " + "not ".repeat(40) + "9;may m worth * " + "1 * ".repeat(10) + "2;";
         tellAll(many, many, many, many, bare, many);
     }
@@ -530,6 +533,20 @@ public final class TextEdgesTest {
         Due.faultIs(one + "law want not lie;", 2, one.length() + 13);
         is("brackets are none", Due.mill("law wear ((1)+((2)));").count(4), 3);
         is("a sign of two is one", Due.mill("law wear 1<=2 and 3<>4 or not 5>=6;").count(4), 12);
+        // 9, 9, 9, 9 and three times 9 knots and one more: each E has its value, the last one, too
+        String sum = "1+1+1+1+";
+        ConfessionMill mill = Due.mill("sin a 2;person p 1 did a 1;person q 1;law grind " + sum + "3;law wear " + sum + "5;law want " + sum + "6;"
+            + "law pair " + sum + "7;may a " + sum + "8;may b " + sum + "9;may c 1+1+1+3+(not 0);");
+        is("64 knots in seven", mill.count(4), 64);
+        for (int what = 0; what < 4; what++) {
+            is("law " + what + " of seven", mill.law(what, 0, what == 3 ? 1 : 0), new int[] {7, 9, 10, 11}[what]);
+        }
+        mill.confess(0, 0);
+        is("the last of seven has 7, as the first", mill.fits(), 8 + 4);
+        mill = Due.mill("sin a 2;person p 1;law grind " + knots(50) + " + 7;may a 1;may b 26;may c 0 or 1 = 2 * 1;");
+        is("61 knots in four", mill.count(4), 52 + 1 + 1 + 7);
+        mill.confess(0, 0);
+        is("the last of four has 0, as the first", mill.fits(), 8 + 4);
         String each = "law grind 1+2;law wear 1+2+3;law want 1;law pair lie;may a not 1;may b 1<2;may c 4;";
         is("of all E", Due.mill(each).count(4), 3 + 5 + 1 + 1 + 2 + 3 + 1);
     }

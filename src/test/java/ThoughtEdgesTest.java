@@ -100,6 +100,10 @@ public final class ThoughtEdgesTest {
             Due.mill("sin a 0;sin b 3;person p 1 did a 9;law grind worth + times;cake c 3 1 0;"), 0, 0, 0, 0, 0);
         planIs("one fall by one, not by two that come ahead",
             Due.mill("sin a 4;sin b 5;person p 1;law grind worth + times;cake c 5 1 0;"), 1, 1);
+        planIs("one fall by one, not behind one that is left",
+            Due.mill("sin a 0;sin b 5;person p 1 did a 1;cake c 5 1 0;"), 1, 1);
+        planIs("one fall by two, not behind one that is left",
+            Due.mill("sin a 0;sin b 5;person p 1 did a 1;person q 1 did b 1;cake c 5 10 0;"), 1, 1, 11);
         planIs("one fall by two",
             Due.mill("sin a 9;person p 1 did a 1;person q 1;cake c 9 10 0;"), 1, 0, 0);
         planIs("one confession of the second, not two of the first",
