@@ -14,6 +14,7 @@ public final class RandomRunsTest {
     private final boolean small;
     private final StringBuilder story = new StringBuilder();
     private boolean differed;
+    private int made;
     private int sins;
     private int people;
     private int cakes;
@@ -144,6 +145,7 @@ public final class RandomRunsTest {
     // ---- calls ----
 
     private void check(String call, long got, long want) {
+        made++;
         story.append(call).append(" = ").append(got).append('\n');
         Due.due("random run: " + call, got, want);
         differed |= got != want;
@@ -185,6 +187,7 @@ public final class RandomRunsTest {
         int s = among(sins);
         int c = among(cakes);
         int what = upTo(6) - 1;
+        made++;
         int n = upTo(9) == 0 ? upTo(14) - 1 : upTo(Math.max(1, Math.min(12, mill.count(6))));
         int fine = upTo(3) == 0 ? upTo(1002) - 1 : upTo(60);
         switch (upTo(16)) {
@@ -235,9 +238,10 @@ public final class RandomRunsTest {
         check("planned(" + cake + ", " + k + ", " + what + ")", mill.planned(cake, k, what), plain.planned(cake, k, what));
     }
 
+    /** Up to so many calls; a text takes some forty more, and 512 are the most that a mill is used for. */
     private void go(int calls) {
         tell(upTo(9) == 0 ? brokenText() : wholeText());
-        for (int k = 0; k < calls && !differed; k++) {
+        while (made < calls && !differed) {
             if (upTo(2) == 0) {
                 change();
             } else {
@@ -261,11 +265,11 @@ public final class RandomRunsTest {
     }
 
     public static void main(String[] args) {
-        int runs = args.length > 0 ? Integer.parseInt(args[0]) : 150;
+        int runs = args.length > 0 ? Integer.parseInt(args[0]) : 250;
         long first = args.length > 1 ? Long.parseLong(args[1]) : 1;
         for (long seed = first; seed < first + runs; seed++) {
-            new RandomRunsTest(seed, true).go(300);
-            new RandomRunsTest(-seed, false).go(300);
+            new RandomRunsTest(seed, true).go(460);
+            new RandomRunsTest(-seed, false).go(460);
             for (int k = 0; k < 20; k++) {
                 faults(seed * 1000 + k);
             }

@@ -565,8 +565,8 @@ public final class ThoughtEdgesTest {
 
     // "How many of n (1 .. 40) ASKED as it is now (nothing changes by it; numbers from a seed 0 .. 2147483647 on) are lies; NONE: no such ones."
     private static void lies() {
-        Supplier<ConfessionMill> made = () -> Due.mill("seed 9;sin a 1;sin b 1;person p 39 did a 1;person q 0;person r 100 did a 1 did b 1;person s 0 did a 1 did b 1;");
-        ConfessionMill mill = made.get();
+        ConfessionMill mill = Due.mill("seed 9;sin a 1;sin b 1;person p 39 did a 1;person q 0;"
+            + "person r 100 did a 1 did b 1;person s 0 did a 1 did b 1;");
         for (int n : new int[] {1, 2, 39, 40}) {
             is("all of " + n, mill.lies(0, 1, n), n);
             is("none of " + n, mill.lies(0, 2, n), 0);
@@ -586,8 +586,9 @@ public final class ThoughtEdgesTest {
         }
         is("nobody", new ConfessionMill().lies(0, 0, 1), -1);
         is("no sins", Due.mill("person p 50;").lies(0, 0, 40), 0);
-        Seen.unchanged("lies", made, one -> one.lies(5, 0, 40), liesFrom(5, 39, 40));
-        Seen.unchanged("lies of none", made, one -> one.lies(-1, 0, 40), -1);
+        Supplier<ConfessionMill> alone = () -> Due.mill("seed 9;sin a 1;sin b 1;person p 39 did a 1;");
+        Seen.unchanged("lies", alone, one -> one.lies(5, 0, 40), liesFrom(5, 39, 40));
+        Seen.unchanged("lies of none", alone, one -> one.lies(-1, 0, 40), -1);
     }
 
     /** One of two SINS is left: a lie takes two numbers, a truth one. */
